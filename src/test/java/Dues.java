@@ -39,6 +39,10 @@ final class Dues {
         dueLong(call + " changes nothing: digest", x.digest(), before);
     }
 
+    int asked() {
+        return asked;
+    }
+
     void end() {
         System.out.println(test + ": " + asked + " answers, " + wrong + " not as due");
         if (asked == 0 || wrong > 0) {

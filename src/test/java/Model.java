@@ -1,7 +1,9 @@
 import java.util.ArrayList;
 import java.util.Comparator;
+import java.util.HashMap;
 import java.util.HashSet;
 import java.util.List;
+import java.util.Map;
 import java.util.Set;
 
 /** The document said once more with lists and sets, as plainly as can be, to be held against TapCap. */
@@ -34,6 +36,8 @@ final class Model {
     private final List<Tariff> tariffs = new ArrayList<>(List.of(new Tariff(0, 2, 1, 5, 20)));
     private final List<Card> cards = new ArrayList<>();
     private List<Tap> taps = new ArrayList<>();
+    // Legs are found once for the taps and ties that there are, as each guess asks for those of all earlier days.
+    private final Map<Integer, List<Leg>> legsFound = new HashMap<>();
     private final Set<Asked> asked = new HashSet<>();
     private int denied;
     private int doubled;
@@ -80,6 +84,7 @@ final class Model {
         }
         int old = cards.get(card).person;
         cards.get(card).person = person;
+        legsFound.clear();
         return old;
     }
 
@@ -117,6 +122,7 @@ final class Model {
         }
         state(taps.size() != 40);
         taps.add(tap);
+        legsFound.clear();
         return taps.size();
     }
 
@@ -274,12 +280,9 @@ final class Model {
         tapArguments(card, stop, line, day, minute);
         int person = cards.get(card).person;
         int before = ofWeek(person, day / 7, 0);
-        List<Tap> kept = taps;
-        taps = new ArrayList<>(kept);
-        taps.add(new Tap(card, stop, line, isIn, day, minute));
-        int after = ofWeek(person, day / 7, 0);
-        taps = kept;
-        return after - before;
+        List<Tap> more = new ArrayList<>(taps);
+        more.add(new Tap(card, stop, line, isIn, day, minute));
+        return weekCostOf(more, person, day / 7) - before;
     }
 
     public int guess(int person, int day, int stop, boolean isBeginning) {
@@ -291,12 +294,20 @@ final class Model {
         index(isPerson(person) && week >= 0 && week <= 3);
         argument(day >= week * 7 && day < week * 7 + 7);
         int before = ofWeek(person, week, 0);
+        List<Tap> less = new ArrayList<>(taps);
+        less.removeAll(tapsOf(person, day));
+        return before - weekCostOf(less, person, week);
+    }
+
+    /** What the week would cost, if there were those taps. */
+    private int weekCostOf(List<Tap> others, int person, int week) {
         List<Tap> kept = taps;
-        taps = new ArrayList<>(kept);
-        taps.removeAll(tapsOf(person, day));
-        int after = ofWeek(person, week, 0);
+        taps = others;
+        legsFound.clear();
+        int cost = ofWeek(person, week, 0);
         taps = kept;
-        return before - after;
+        legsFound.clear();
+        return cost;
     }
 
     public long digest() {
@@ -374,6 +385,15 @@ final class Model {
 
     /** The legs as the taps tell them; a side that is a guess bears the stop of the other side still. */
     private List<Leg> toldLegs(int person, int day) {
+        List<Leg> found = legsFound.get(person * 28 + day);
+        if (found == null) {
+            found = findLegs(person, day);
+            legsFound.put(person * 28 + day, found);
+        }
+        return found;
+    }
+
+    private List<Leg> findLegs(int person, int day) {
         List<Leg> legs = new ArrayList<>();
         Tap open = null;
         Tap lastOut = null;
@@ -475,6 +495,7 @@ final class Model {
     }
 
     private int dayCost(List<Journey> journeys, int day) {
+        if (journeys.isEmpty()) return 0;
         return dayWith(journeys, day, dayTicket(journeys, day));
     }
 

@@ -1,7 +1,3 @@
-import java.lang.reflect.InvocationTargetException;
-import java.lang.reflect.Method;
-import java.lang.reflect.Modifier;
-import java.util.Arrays;
 import java.util.Random;
 
 /** Runs of calls made up from fixed seeds: TapCap and the model of the document must answer the same. */
@@ -41,11 +37,11 @@ public final class ModelTest {
     private void run(Dues dues, int seed) {
         for (int i = 0; i < CALLS; i++) {
             String name = i < 2 ? "card" : pick();
-            int[] a = arguments(name);
-            String call = "run " + seed + " call " + i + ": " + name + Arrays.toString(a);
-            String got = answer(program, name, a);
-            String want = answer(model, name, a);
-            dues.isTrue(call + " answered " + got + ", due is " + want + ", that", got.equals(want));
+            Call call = Call.of(name, arguments(name));
+            String got = call.on(program);
+            String want = call.on(model);
+            dues.isTrue("run " + seed + " call " + i + ": " + call + " answered " + got + ", due is " + want + ", that",
+                    got.equals(want));
         }
         dues.dueLong("run " + seed + ": digest()", program.digest(), model.digest());
     }
@@ -114,29 +110,5 @@ public final class ModelTest {
 
     private int minute() {
         return random.nextInt(20) == 0 ? odd(0, 1439) : 480 + random.nextInt(minutes);
-    }
-
-    private static String answer(Object face, String name, int[] numbers) {
-        for (Method method : face.getClass().getDeclaredMethods()) {
-            if (method.getName().equals(name) && Modifier.isPublic(method.getModifiers())) {
-                return answerOf(face, method, numbers);
-            }
-        }
-        return "there is no " + name;
-    }
-
-    private static String answerOf(Object face, Method method, int[] numbers) {
-        Class<?>[] types = method.getParameterTypes();
-        Object[] values = new Object[types.length];
-        for (int i = 0; i < types.length; i++) {
-            values[i] = types[i] == boolean.class ? (Object) (numbers[i] == 1) : (Object) numbers[i];
-        }
-        try {
-            return String.valueOf(method.invoke(face, values));
-        } catch (InvocationTargetException e) {
-            return e.getCause().getClass().getName();
-        } catch (IllegalAccessException e) {
-            return "no access to " + method.getName();
-        }
     }
 }

@@ -38,6 +38,13 @@ final class Rides {
         }
     }
 
+    /** As many ins, each a leg and a journey by itself: it ends by a guess, at that stop if none is known. */
+    static void ins(TapCap x, int card, int stop, int day, int count) {
+        for (int i = 0; i < count; i++) {
+            x.tap(card, stop, 0, true, day, 30 * i);
+        }
+    }
+
     static void close(TapCap x, int days) {
         for (int i = 0; i < days; i++) {
             x.close();
