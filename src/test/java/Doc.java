@@ -63,12 +63,15 @@ final class Doc {
         if (line.startsWith("== ")) {
             return "Terms " + line.charAt(3);
         }
+        if (line.startsWith("Ahead of the calls")) {
+            return "Ahead of the calls";
+        }
         return line.startsWith("A method that throws") ? "Every promise" : before;
     }
 
     /** Without headings, fences, the heads of the methods, and what the arguments are called. */
     private static String wordsOf(String line) {
-        if (line.startsWith("#") || line.startsWith("==") || line.startsWith("```") || line.startsWith("Ahead of")) {
+        if (line.startsWith("#") || line.startsWith("==") || line.startsWith("```")) {
             return "";
         }
         int head = line.startsWith("`") ? line.indexOf("`: ") : -1;

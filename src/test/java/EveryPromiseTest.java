@@ -12,6 +12,8 @@ public final class EveryPromiseTest {
         firstOfWhatIsTold();
         firstOfWhatIsDone();
         firstOfWhatIsAsked();
+        askingChangesNothing();
+        whatWouldBeChangesNothing();
         S.end();
     }
 
@@ -77,15 +79,15 @@ public final class EveryPromiseTest {
     private static void throwingChangesNothing() {
         S.says("Every promise", "A method that throws an exception changes nothing.");
         for (Stand stand : Stand.all()) {
-            S.changesNothing(stand, refused());
-            S.changesNothing(stand, refusedWhenAsked());
+            S.changesNothing(stand, true, refused());
+            S.changesNothing(stand, true, refusedWhenAsked());
         }
-        S.changesNothing(Stand.GIVEN, List.of(Call.of("card"), Call.of("settle", 0, 0), Call.of("refund", 0, 0, 0)));
-        S.changesNothing(Stand.SOME, List.of(Call.of("tariff", 8, 1, 1, 1, 1), Call.of("tie", 1, 0),
+        S.changesNothing(Stand.GIVEN, true, List.of(Call.of("card"), Call.of("settle", 0, 0), Call.of("refund", 0, 0, 0)));
+        S.changesNothing(Stand.SOME, true, List.of(Call.of("tariff", 8, 1, 1, 1, 1), Call.of("tie", 1, 0),
                 Call.of("settle", 0, 2), Call.of("refund", 0, 1, 0)));
-        S.changesNothing(Stand.FULL, List.of(Call.of("card"), Call.of("tariff", 27, 1, 1, 1, 1), Call.of("tie", 2, 0),
+        S.changesNothing(Stand.FULL, true, List.of(Call.of("card"), Call.of("tariff", 27, 1, 1, 1, 1), Call.of("tie", 2, 0),
                 Call.of("tap", 0, 0, 0, 1, 0, 0), Call.of("close"), Call.of("refund", 0, 0, 0)));
-        S.changesNothing(Stand.GIVEN.times(5, "tariff", 27, 2, 1, 5, 20), List.of(Call.of("tariff", 27, 9, 5, 9, 9)));
+        S.changesNothing(Stand.GIVEN.times(5, "tariff", 27, 2, 1, 5, 20), true, List.of(Call.of("tariff", 27, 9, 5, 9, 9)));
     }
 
     private static void firstIs(Class<? extends RuntimeException> want, Stand stand, Call... calls) {
@@ -143,5 +145,36 @@ public final class EveryPromiseTest {
             firstIs(Rides.INDEX, stand, Call.of("wouldCost", 0, 0, 0, 1, -1, 1440), Call.of("worth", 4, 0, 7),
                     Call.of("worth", 0, 4, 0), Call.of("worth", 0, -1, -1), Call.of("worth", stand.tied(), 0, 28));
         }
+    }
+
+    private static void askingChangesNothing() {
+        S.says("Not promised", "Nothing is promised beyond the answers and state changes described above,");
+        for (Stand stand : Stand.withCards()) {
+            S.changesNothing(stand, false, List.of(Call.of("ofCard", 0, 0), Call.of("ofDay", 0, 0, 6),
+                    Call.of("ofDay", 1, 27, 7), Call.of("ofWeek", 0, 3, 1), Call.of("ofWeek", 1, 0, 2),
+                    Call.of("share", 2, 0, 0), Call.of("check", 2, 27, 1439), Call.of("many", 6),
+                    Call.of("meanFare", 27)));
+        }
+        for (Stand stand : List.of(Stand.SOME, Stand.FULL)) {
+            S.changesNothing(stand, false, List.of(Call.of("ofLeg", 0, 0, 0, 1), Call.of("ofJourney", 0, 0, 0, 3)));
+        }
+    }
+
+    private static void whatWouldBeChangesNothing() {
+        S.says("Ahead of the calls", "Ahead of the calls `wouldCost`, `guess`, `worth`, `digest` the interface says: "
+                + "---- what would be (nothing is changed).");
+        for (Stand stand : Stand.withCards()) {
+            for (int day = 0; day < 28; day += 9) {
+                S.changesNothing(stand, false, List.of(Call.of("wouldCost", 0, 9, 5, 1, day, 1439),
+                        Call.of("wouldCost", 2, 0, 0, 0, day, 0), Call.of("guess", 0, day, 3, 1),
+                        Call.of("guess", 1, day, 0, 0), Call.of("worth", 0, day / 7, day),
+                        Call.of("worth", 1, day / 7, day), Call.of("digest")));
+            }
+        }
+        // What was tried is not kept: the same tap is no double, and the next one of 40 has its place.
+        Stand tried = Stand.GIVEN.then("wouldCost", 0, 0, 0, 1, 0, 0);
+        S.answers(tried, Call.of("tap", 0, 0, 0, 1, 0, 0), 1);
+        S.answers(tried, Call.of("ofDay", 0, 0, 0), 0);
+        S.answers(Stand.NEW.then("digest"), Call.of("card"), 0);
     }
 }

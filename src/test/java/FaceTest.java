@@ -92,8 +92,8 @@ public final class FaceTest {
         Class<?>[] inside = TapCap.class.getDeclaredClasses();
         DUES.isTrue("some twelve classes in all", inside.length + 1 <= 12);
         for (Class<?> one : inside) {
-            DUES.isTrue(one + " is private and static",
-                    Modifier.isPrivate(one.getModifiers()) && Modifier.isStatic(one.getModifiers()));
+            DUES.isTrue(one + " is private or package-visible",
+                    !Modifier.isPublic(one.getModifiers()) && !Modifier.isProtected(one.getModifiers()));
             DUES.isTrue(one + " has some twenty fields", one.getDeclaredFields().length <= 20);
         }
     }

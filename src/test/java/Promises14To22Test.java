@@ -1,4 +1,5 @@
 import java.util.List;
+import java.util.function.IntFunction;
 
 /** A test for each sentence of the promises 14 to 22: what one asks. */
 public final class Promises14To22Test {
@@ -36,7 +37,7 @@ public final class Promises14To22Test {
     }
 
     /** Those numbers are answered first for what, and none outside is. */
-    private static void whatIs(int most, java.util.function.IntFunction<Call> call) {
+    private static void whatIs(int most, IntFunction<Call> call) {
         S.refusedOutside(Rides.ARGUMENT, List.of(Stand.GIVEN.then("tap", 0, 0, 0, 1, 0, 0), Stand.FULL), 0, most, call);
     }
 
@@ -92,6 +93,9 @@ public final class Promises14To22Test {
             forty = forty.then("tap", 0, 9, 5, 0, 0, 36 * i);
         }
         all(forty, "ofDay", new int[] {0, 0}, 40, 40, 40, 40, 80, 5, 1, 5);
+        Stand behind = forty.then("tariff", 0, 2, 1, 5, 4).then("ofDay", 0, 0, 6);
+        all(behind, "ofDay", new int[] {1, 0}, 0, 0, 0, 0, 0, 0, 0, 0);
+        all(behind, "ofDay", new int[] {0, 1}, 0, 0, 0, 0, 0, 0, 0, 0);
     }
 
     private static void ofDayRefused() {

@@ -64,6 +64,13 @@ public final class Promises23To26Test {
         S.answers(full, Call.of("wouldCost", 0, 9, 5, 0, 14, 1439), 2);
         S.answers(full.then("wouldCost", 3, 9, 5, 1, 27, 0), Call.of("many", 1), 40);
         S.answers(full.then("wouldCost", 3, 9, 5, 1, 27, 0), Call.of("ofDay", 3, 27, 0), 0);
+        Stand ofOne = Stand.GIVEN.then("tariff", 0, 1, 0, 50, 200);
+        for (int i = 0; i < 40; i++) {
+            ofOne = ofOne.then("tap", 0, 0, 0, 1, 0, 35 * i);
+        }
+        S.answers(ofOne, Call.of("ofWeek", 0, 0, 0), 40);
+        S.answers(ofOne, Call.of("wouldCost", 0, 0, 0, 1, 0, 1439), 1);
+        S.answers(ofOne, Call.of("wouldCost", 0, 0, 0, 1, 6, 1439), 1);
     }
 
     private static void wouldCostRefused() {
@@ -156,6 +163,9 @@ public final class Promises23To26Test {
         }
         Stand tied = Stand.FULL.then("tie", 1, 0).then("lose", 2, 1);
         S.dueLong("all full, tied: digest()", tied.made().digest(), wrapped(valuesOf(tied)));
+        Stand late = Stand.GIVEN.then("tap", 0, 0, 0, 1, 26, 0).then("tap", 0, 9, 0, 0, 26, 9)
+                .then("tap", 0, 1, 0, 1, 27, 0).then("tap", 0, 8, 0, 0, 27, 9);
+        S.dueLong("with legs of the days 26 and 27: digest()", late.made().digest(), wrapped(valuesOf(late)));
         S.says("Promise 26", "Returns d.");
         // 4806 and nine numbers, of which but the tariffs are 0, do not reach what a long holds.
         long small = 4806L * 26439622160671L + 29791;

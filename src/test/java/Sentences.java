@@ -64,15 +64,21 @@ final class Sentences {
         changesNothing(stand, calls);
     }
 
-    /** Each of the calls throws, and behind them everything answers as before. */
-    void changesNothing(Stand stand, List<Call> calls) {
+    /** Each of the calls throws or not, as it is said, and behind them everything answers as before. */
+    void changesNothing(Stand stand, boolean isThrowing, List<Call> calls) {
         TapCap x = stand.made();
         for (Call call : calls) {
-            dues.isTrue(now + stand + ": " + call + " throws, that", call.on(x).endsWith("Exception"));
+            String got = call.on(x);
+            dues.isTrue(now + stand + ": " + call + " throws or not as it is due, not " + got + ", that",
+                    got.endsWith("Exception") == isThrowing);
         }
+        changesNothing(stand, calls);
+    }
+
+    private void changesNothing(Stand stand, List<Call> calls) {
         List<String> before = BEFORE.computeIfAbsent(stand, Everything::askedAt);
         String changed = firstChange(before, Everything.askedAt(stand.then(calls)));
-        dues.isTrue(now + stand + ": behind refused " + calls + " " + changed + ", that", changed.isEmpty());
+        dues.isTrue(now + stand + ": behind " + calls + " " + changed + ", that", changed.isEmpty());
     }
 
     void refused(Class<? extends RuntimeException> want, Stand stand, String call, int... numbers) {

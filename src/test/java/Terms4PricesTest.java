@@ -51,6 +51,12 @@ public final class Terms4PricesTest {
             // One fare of 5 above the zone 1 is less than the next ticket, which costs 10 more.
             day(y, 0, z == 1 ? 6 : 11, 1);
         }
+        TapCap x = Rides.withZones();
+        // There is none for less than the zone 1, which would cost less than nothing.
+        x.tariff(0, 1, 5, 9, 39);
+        x.tap(0, 0, 0, true, 0, 0);
+        day(x, 0, 1, 0);
+        week(x, 0, 1, 0);
     }
 
     private static void dayWithoutJourneys() {

@@ -299,6 +299,22 @@ public final class Terms5MoneyTest {
         S.answers(asked, Call.of("refund", 2, 5, 27), 0);
         Stand early = Stand.GIVEN.then("refund", 1, 5, 27).then("late", 5, 27, 30);
         S.answers(early, Call.of("refund", 1, 5, 27), 0);
+        for (int person = 0; person < 3; person++) {
+            eachOnceForEachOfTwo(person, person + 1);
+        }
+    }
+
+    /** 4 cards, 168 times late, and 168 refunds each: with the last one 509 calls. */
+    private static void eachOnceForEachOfTwo(int one, int other) {
+        TapCap x = Rides.withCards(4);
+        for (int place = 0; place < 6 * 28; place++) {
+            x.late(place / 28, place % 28, 30);
+            S.due("refund of " + one + " at " + place, x.refund(one, place / 28, place % 28), 0);
+        }
+        for (int place = 0; place < 6 * 28; place++) {
+            S.due("refund of " + other + " at " + place, x.refund(other, place / 28, place % 28), 0);
+        }
+        S.refuses("once more", Rides.STATE, () -> x.refund(one, 5, 27));
     }
 
     private static void halfOfEachFare() {
