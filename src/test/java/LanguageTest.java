@@ -11,9 +11,10 @@ public final class LanguageTest {
     private static final Path PROGRAM = Path.of("src", "main", "java", "TapCap.java");
     private static final int MOST_LINES = 60;
     private static final int MOST_PARAMETERS = 7;
-    private static final String[] REFUSED = {"^import (?!java\\.util\\.)", "^package\\b", "^(?!\\s*(case|default)\\b).*->", "::",
-        "\\bfinally\\b", "\\bassert\\b", "\\bsynchronized\\b", "\\bSystem\\.(?!arraycopy)", "\\bThread\\b", "Exact\\b",
-        "\\bhashCode\\b", "\\b[Rr]andom\\b", "^static \\{", "\\[\\]\\[\\]\\[\\]", "\" *\\+", "\\+ *\"", "[^\\x00-\\x7f]"};
+    private static final String[] REFUSED = {"^import (?!java\\.util\\.)", "^package\\b",
+        "^(?!\\s*(case|default)\\b).*->", "::", "\\bfinally\\b", "\\bassert\\b", "\\bsynchronized\\b", "\\bSystem\\.(?!arraycopy)",
+        "\\bThread\\b", "Exact\\b", "\\bhashCode\\b", "\\b[Rr]andom\\b", "^static \\{", "\\[\\]\\[\\]\\[\\]",
+        "\" *\\+", "\\+ *\"", "[^\\x00-\\x7f]"};
 
     public static void main(String[] args) throws IOException {
         List<String> lines = Files.readAllLines(PROGRAM);
