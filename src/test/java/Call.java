@@ -21,6 +21,14 @@ final class Call {
         return new Call(name, numbers.clone());
     }
 
+    String name() {
+        return name;
+    }
+
+    int number(int place) {
+        return numbers[place];
+    }
+
     /** What it answers there, or the name of what it throws. */
     String on(Object face) {
         Method method = FOUND.computeIfAbsent(face.getClass().getName() + "." + name, key -> find(face, name));

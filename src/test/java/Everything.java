@@ -3,20 +3,15 @@ import java.util.List;
 
 /** The answers to everything that can be asked at a stand, on as many new objects as their 512 calls ask for. */
 final class Everything {
-    private static final int MOST_CALLS = 512;
-
-    private final Stand stand;
+    private final Asker asker;
     private final List<String> answers = new ArrayList<>();
-    private TapCap x;
-    private int left;
 
     private Everything(Stand stand) {
-        this.stand = stand;
+        asker = new Asker(stand);
     }
 
     static List<String> askedAt(Stand stand) {
         Everything all = new Everything(stand);
-        all.makeAnew();
         all.askOfAll();
         for (int card = 0; card < 4; card++) {
             all.askOfOne(card);
@@ -30,18 +25,9 @@ final class Everything {
         return all.answers;
     }
 
-    private void makeAnew() {
-        x = stand.made();
-        left = MOST_CALLS - stand.size();
-    }
-
     private void ask(String name, int... numbers) {
-        if (left == 0) {
-            makeAnew();
-        }
-        left--;
         Call call = Call.of(name, numbers);
-        answers.add(call + " answers " + call.on(x));
+        answers.add(call + " answers " + asker.answer(call));
     }
 
     /** A digest has all answers of many, ofCard, ofDay, ofLeg, ofWeek and share in it. */
@@ -75,7 +61,7 @@ final class Everything {
     }
 
     private void askWhatWasTold() {
-        makeAnew();
+        asker.makeAnew();
         for (int stop = 0; stop < 10; stop++) {
             ask("zone", stop, 1);
         }
@@ -87,7 +73,7 @@ final class Everything {
     }
 
     private void askForRefunds(int person) {
-        makeAnew();
+        asker.makeAnew();
         for (int line = 0; line < 6; line++) {
             for (int day = 0; day < 28; day++) {
                 ask("late", line, day, 200);
@@ -97,7 +83,7 @@ final class Everything {
     }
 
     private void askOfCardsByChanging() {
-        makeAnew();
+        asker.makeAnew();
         for (int card = 0; card < 4; card++) {
             ask("lose", card, 0);
             ask("pay", card, 1);
@@ -112,7 +98,7 @@ final class Everything {
     }
 
     private void askForMoneyByClosing() {
-        makeAnew();
+        asker.makeAnew();
         for (int person = 0; person < 4; person++) {
             for (int week = 0; week < 4; week++) {
                 ask("settle", person, week);

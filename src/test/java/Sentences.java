@@ -24,7 +24,18 @@ final class Sentences {
     /** What is asked from here on is due by this sentence. */
     void says(String section, String words) {
         isAsked();
-        now = section + ", \"" + words + "\": ";
+        now = "";
+        name(section, words);
+    }
+
+    /** What is asked from here on is due by these two sentences together. */
+    void saysBoth(String section, String words, String otherSection, String otherWords) {
+        says(section, words);
+        name(otherSection, otherWords);
+    }
+
+    private void name(String section, String words) {
+        now += section + ", \"" + words + "\": ";
         said.computeIfAbsent(section, key -> new ArrayList<>()).add(words);
         dues.isTrue(now + "the document says so, that", doc.says(section, words));
         askedBefore = dues.asked();

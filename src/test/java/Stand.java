@@ -1,5 +1,6 @@
 import java.util.ArrayList;
 import java.util.List;
+import java.util.function.Predicate;
 
 /** The calls that bring a new object to where a question is asked: they can be made again for the next question. */
 final class Stand {
@@ -49,6 +50,11 @@ final class Stand {
             stand = stand.then(call, numbers);
         }
         return stand;
+    }
+
+    /** The same without some of its calls. */
+    Stand without(Predicate<Call> isLeftOut) {
+        return new Stand(name, calls.stream().filter(isLeftOut.negate()).toList());
     }
 
     TapCap made() {

@@ -198,62 +198,57 @@ public final class WouldBeTest {
     }
 
     private static void digest() {
-        TapCap x = Rides.withZones();
-        x.card();
-        x.carrier(1, 2);
-        x.tie(2, 1);
-        x.pay(0, 77);
-        Rides.ride(x, 0, 0, 3, 1, 0, 100);
-        Rides.ride(x, 2, 4, 2, 0, 9, 100);
-        x.tap(0, 0, 0, true, 9, 100);
-        x.tap(1, 2, 3, false, 20, 1000);
-        x.tap(1, 4, 3, false, 20, 1003);
-        Rides.ride(x, 0, 6, 7, 1, 26, 100);
-        Rides.ride(x, 0, 8, 9, 1, 27, 100);
-        Rides.close(x, 10);
-        x.lose(1, true);
-        x.tap(1, 0, 0, true, 0, 0);
-        DUES.dueLong("digest by what the calls answer", x.digest(), byCalls(x));
+        Stand stand = Stand.GIVEN.then("zone", 1, 2).then("zone", 2, 3).then("zone", 3, 4).then("carrier", 1, 2)
+                .then("tie", 2, 1).then("tie", 3, 1).then("pay", 0, 77)
+                .then("tap", 0, 0, 1, 1, 0, 100).then("tap", 0, 3, 1, 0, 0, 115)
+                .then("tap", 2, 4, 2, 1, 9, 100).then("tap", 2, 2, 2, 0, 9, 115)
+                .then("tap", 0, 0, 0, 1, 9, 100).then("tap", 1, 2, 3, 0, 20, 1000).then("tap", 1, 4, 3, 0, 20, 1003)
+                .then("tap", 0, 6, 1, 1, 26, 100).then("tap", 0, 7, 1, 0, 26, 115)
+                .then("tap", 0, 8, 1, 1, 27, 100).then("tap", 0, 9, 1, 0, 27, 115)
+                .times(10, "close").then("lose", 1, 1).then("tap", 1, 0, 0, 1, 0, 0);
+        DUES.dueLong("digest by what the calls answer", stand.made().digest(), byCalls(new Asker(stand)));
     }
 
-    private static long byCalls(TapCap x) {
+    private static long byCalls(Asker x) {
         long d = 4806;
         for (int what = 0; what <= 8; what++) {
-            d = d * 31 + x.many(what);
+            d = d * 31 + x.ask("many", what);
         }
-        for (int card = 0; card < x.many(0); card++) {
+        int cards = x.ask("many", 0);
+        for (int card = 0; card < cards; card++) {
             for (int what = 0; what <= 7; what++) {
-                d = d * 31 + x.ofCard(card, what);
+                d = d * 31 + x.ask("ofCard", card, what);
             }
         }
-        for (int card = 0; card < x.many(0); card++) {
-            d = x.ofCard(card, 1) == card ? personByCalls(x, card, d) : d;
+        for (int card = 0; card < cards; card++) {
+            d = x.ask("ofCard", card, 1) == card ? personByCalls(x, card, d) : d;
         }
         return d;
     }
 
-    private static long personByCalls(TapCap x, int person, long start) {
+    private static long personByCalls(Asker x, int person, long start) {
         long d = start;
         for (int day = 0; day <= 27; day++) {
             for (int what = 0; what <= 7; what++) {
-                d = d * 31 + x.ofDay(person, day, what);
+                d = d * 31 + x.ask("ofDay", person, day, what);
             }
-            for (int carrier = 0; carrier < 3 && x.ofDay(person, day, 0) > 0; carrier++) {
-                d = d * 31 + x.share(carrier, person, day);
+            for (int carrier = 0; carrier < 3 && x.ask("ofDay", person, day, 0) > 0; carrier++) {
+                d = d * 31 + x.ask("share", carrier, person, day);
             }
-            for (int leg = 0; leg < x.ofDay(person, day, 1); leg++) {
+            int legs = x.ask("ofDay", person, day, 1);
+            for (int leg = 0; leg < legs; leg++) {
                 for (int what = 0; what <= 6; what++) {
-                    d = d * 31 + x.ofLeg(person, day, leg, what);
+                    d = d * 31 + x.ask("ofLeg", person, day, leg, what);
                 }
             }
         }
         for (int week = 0; week <= 3; week++) {
             for (int what = 0; what <= 2; what++) {
-                d = d * 31 + x.ofWeek(person, week, what);
+                d = d * 31 + x.ask("ofWeek", person, week, what);
             }
         }
         for (int stop = 0; stop <= 9; stop++) {
-            d = d * 31 + x.guess(person, 27, stop, true);
+            d = d * 31 + x.ask("guess", person, 27, stop, 1);
         }
         return d;
     }
